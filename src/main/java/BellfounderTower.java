@@ -344,7 +344,7 @@ public final class BellfounderTower {
         }
 
         static int bellAt(int row, int place) {
-            return (row >> shift(place)) & MASK;
+            return (row >> (BITS * (place - 1))) & MASK;
         }
 
         static int placeOf(int row, int bell, int n) {
@@ -418,8 +418,10 @@ public final class BellfounderTower {
         }
 
         private static int swapped(int row, int place) {
-            int unlike = bellAt(row, place) ^ bellAt(row, place + 1);
-            return row ^ (unlike << shift(place)) ^ (unlike << shift(place + 1));
+            int low = BITS * (place - 1);
+            int high = low + BITS;
+            int unlike = ((row >> low) ^ (row >> high)) & MASK;
+            return row ^ (unlike << low) ^ (unlike << high);
         }
 
         /** The row that comes of row by what makes of rounds the other one. */
@@ -816,6 +818,7 @@ public final class BellfounderTower {
 
     /** Looks at all touches of some leads, and keeps how many are good, and the best one. */
     private static final class Search {
+        /** Empty between two looks, as each call that is laid here is taken away again. */
         private final Touch trial;
         private final Line bestCalls = new Line(MOST_LEADS);
         private int good;
@@ -826,7 +829,6 @@ public final class BellfounderTower {
         }
 
         void look(int leads) {
-            trial.clear();
             bestCalls.clear();
             good = 0;
             best = NONE;
