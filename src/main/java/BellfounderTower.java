@@ -23,9 +23,10 @@ public final class BellfounderTower {
     private final Search search;
 
     public BellfounderTower() {
-        method = new Method();
-        touch = new Touch(method);
-        search = new Search(method);
+        Method empty = new Method();
+        method = empty;
+        touch = new Touch(empty);
+        search = new Search(empty);
     }
 
     // ---- the method

@@ -24,20 +24,6 @@ public final class MethodPromisesTest {
         Check.end("MethodPromisesTest");
     }
 
-    /** Plain bob on four bells: a plain lead ends with 1342, a bob is 14, a single 1234. */
-    private static BellfounderTower plainBobMinimus() {
-        BellfounderTower tower = new BellfounderTower();
-        tower.begin(4);
-        int[] half = {0, 9, 0, 9};
-        for (int change : half) {
-            tower.change(change);
-        }
-        tower.mirror();
-        tower.change(3);
-        tower.at(1, 9);
-        return tower;
-    }
-
     private static void told(String where, BellfounderTower tower, int... due) {
         for (int what = 0; what < due.length; what++) {
             Check.is(where + ": told(" + what + ")", tower.told(what), due[what]);
@@ -60,7 +46,7 @@ public final class MethodPromisesTest {
             Check.is("begin(" + n + ")", tower.begin(n), rounds[n - 4]);
             told("begin(" + n + ")", tower, n, 0, allPlaces[n - 4], allPlaces[n - 4], 0, n);
         }
-        BellfounderTower full = plainBobMinimus();
+        BellfounderTower full = Towers.plainBobMinimus();
         full.call(0);
         for (int n : new int[] {3, 8, 0, -1, -4, LOWEST, HIGHEST}) {
             Check.refused("begin(" + n + ")", full, ILLEGAL, () -> full.begin(n));
@@ -68,7 +54,7 @@ public final class MethodPromisesTest {
     }
 
     private static void beginEmptiesAll() {
-        BellfounderTower tower = plainBobMinimus();
+        BellfounderTower tower = Towers.plainBobMinimus();
         tower.at(2, 0);
         tower.call(0);
         tower.call(1);
@@ -159,7 +145,7 @@ public final class MethodPromisesTest {
             Check.refused("at(1, " + set + ")", tower, ILLEGAL, () -> tower.at(1, set));
             Check.refused("at(2, " + set + ")", tower, ILLEGAL, () -> tower.at(2, set));
         }
-        BellfounderTower rung = plainBobMinimus();
+        BellfounderTower rung = Towers.plainBobMinimus();
         rung.call(1);
         rung.at(1, 15);
         Check.is("at() rings the calls anew", rung.touch(1), 1324);
@@ -195,7 +181,7 @@ public final class MethodPromisesTest {
     }
 
     private static void told() {
-        BellfounderTower tower = plainBobMinimus();
+        BellfounderTower tower = Towers.plainBobMinimus();
         told("plain bob", tower, 4, 8, 9, 15, 0, 1);
         tower.call(2);
         tower.call(0);
@@ -236,7 +222,7 @@ public final class MethodPromisesTest {
         Check.is("next(53124, 4)", tower.next(53124, 4), 35142);
         Check.is("next(53124, 31)", tower.next(53124, 31), 53124);
         Check.is("next(53124, 19)", tower.next(53124, 19), 53214);
-        for (int row : new int[] {12344, 12340, 12346, 1234, 123456, 0, -12345, LOWEST, HIGHEST}) {
+        for (int row : new int[] {12344, 12340, 12346, 1234, 123456, 112345, 0, -12345, LOWEST, HIGHEST}) {
             Check.refused("next(" + row + ", 1)", tower, ILLEGAL, () -> tower.next(row, 1));
         }
         for (int set : new int[] {0, 2, 32, -1, LOWEST, HIGHEST}) {
@@ -253,7 +239,7 @@ public final class MethodPromisesTest {
     }
 
     private static void lead() {
-        BellfounderTower tower = plainBobMinimus();
+        BellfounderTower tower = Towers.plainBobMinimus();
         Check.is("lead(1234, 0)", tower.lead(1234, 0), 1342);
         Check.is("lead(1234, 1)", tower.lead(1234, 1), 1234);
         Check.is("lead(1234, 2)", tower.lead(1234, 2), 1324);
@@ -262,7 +248,7 @@ public final class MethodPromisesTest {
         for (int call : new int[] {-1, 3, LOWEST, HIGHEST}) {
             Check.refused("lead(1234, " + call + ")", tower, ILLEGAL, () -> tower.lead(1234, call));
         }
-        for (int row : new int[] {1233, 1235, 123, 12345, 0, -1234, LOWEST, HIGHEST}) {
+        for (int row : new int[] {1233, 1235, 123, 12345, 11234, 0, -1234, LOWEST, HIGHEST}) {
             Check.refused("lead(" + row + ", 0)", tower, ILLEGAL, () -> tower.lead(row, 0));
         }
         BellfounderTower empty = new BellfounderTower();
@@ -285,7 +271,7 @@ public final class MethodPromisesTest {
         Check.is("crossed(21345)", tower.crossed(21345), 1);
         Check.is("crossed(51234)", tower.crossed(51234), 4);
         Check.is("crossed(31524)", tower.crossed(31524), 4);
-        for (int row : new int[] {11345, 12340, 1234, 123456, 0, -12345, LOWEST, HIGHEST}) {
+        for (int row : new int[] {11345, 12340, 1234, 123456, 112345, 0, -12345, LOWEST, HIGHEST}) {
             Check.refused("crossed(" + row + ")", tower, ILLEGAL, () -> tower.crossed(row));
         }
         tower.begin(7);

@@ -18,19 +18,8 @@ public final class SearchPromisesTest {
         Check.end("SearchPromisesTest");
     }
 
-    private static BellfounderTower plainBobMinimus() {
-        BellfounderTower tower = new BellfounderTower();
-        tower.begin(4);
-        int[] method = {0, 9, 0, 9, 0, 9, 0, 3};
-        for (int change : method) {
-            tower.change(change);
-        }
-        tower.at(1, 9);
-        return tower;
-    }
-
     private static void good() {
-        BellfounderTower tower = plainBobMinimus();
+        BellfounderTower tower = Towers.plainBobMinimus();
         int[] due = {0, 1, 1, 2, 2, 2};
         for (int k = 0; k <= 5; k++) {
             Check.is("good(" + k + ")", tower.good(k), due[k]);
@@ -53,7 +42,7 @@ public final class SearchPromisesTest {
     }
 
     private static void best() {
-        BellfounderTower tower = plainBobMinimus();
+        BellfounderTower tower = Towers.plainBobMinimus();
         int[] due = {-1, 16, 16, 28, 28, 28};
         for (int k = 0; k <= 5; k++) {
             Check.is("best(" + k + ")", tower.best(k), due[k]);
@@ -65,7 +54,7 @@ public final class SearchPromisesTest {
     }
 
     private static void bestCall() {
-        BellfounderTower tower = plainBobMinimus();
+        BellfounderTower tower = Towers.plainBobMinimus();
         Check.is("bestCall(1, 0)", tower.bestCall(1, 0), 1);
         Check.is("bestCall(2, 0)", tower.bestCall(2, 0), 1);
         for (int place = 0; place < 3; place++) {
@@ -86,7 +75,7 @@ public final class SearchPromisesTest {
     }
 
     private static void firstOfTheBest() {
-        BellfounderTower tower = plainBobMinimus();
+        BellfounderTower tower = Towers.plainBobMinimus();
         tower.at(2, 9);
         Check.is("a bob and a single alike are two good ones", tower.good(1), 2);
         Check.is("the bob comes first", tower.bestCall(1, 0), 1);
@@ -115,7 +104,7 @@ public final class SearchPromisesTest {
     }
 
     private static void endWith() {
-        BellfounderTower tower = plainBobMinimus();
+        BellfounderTower tower = Towers.plainBobMinimus();
         Check.refused("endWith(0, 0) of none", tower, INDEX, () -> tower.endWith(0, 0));
         tower.call(0);
         tower.call(0);
@@ -137,7 +126,7 @@ public final class SearchPromisesTest {
     }
 
     private static void clashes() {
-        BellfounderTower tower = plainBobMinimus();
+        BellfounderTower tower = Towers.plainBobMinimus();
         Check.is("clashes(0) without calls", tower.clashes(0), 0);
         tower.call(1);
         Check.is("clashes(0) behind a bob", tower.clashes(0), 7);
@@ -156,7 +145,7 @@ public final class SearchPromisesTest {
     }
 
     private static void nothingIsChanged() {
-        BellfounderTower tower = plainBobMinimus();
+        BellfounderTower tower = Towers.plainBobMinimus();
         tower.call(0);
         tower.call(2);
         long before = tower.digest();
@@ -175,7 +164,7 @@ public final class SearchPromisesTest {
 
     private static void digest() {
         Check.is("digest of a new tower", new BellfounderTower().digest(), -1842964189053871377L);
-        BellfounderTower tower = plainBobMinimus();
+        BellfounderTower tower = Towers.plainBobMinimus();
         tower.at(2, 0);
         Check.is("digest without calls", tower.digest(), addedUp(tower));
         int[] calls = {0, 0, 2, 1, 0};

@@ -27,19 +27,8 @@ public final class TouchPromisesTest {
         Check.end("TouchPromisesTest");
     }
 
-    private static BellfounderTower plainBobMinimus() {
-        BellfounderTower tower = new BellfounderTower();
-        tower.begin(4);
-        int[] method = {0, 9, 0, 9, 0, 9, 0, 3};
-        for (int change : method) {
-            tower.change(change);
-        }
-        tower.at(1, 9);
-        return tower;
-    }
-
     private static BellfounderTower plainCourse() {
-        BellfounderTower tower = plainBobMinimus();
+        BellfounderTower tower = Towers.plainBobMinimus();
         tower.call(0);
         tower.call(0);
         tower.call(0);
@@ -53,7 +42,7 @@ public final class TouchPromisesTest {
     }
 
     private static void call() {
-        BellfounderTower tower = plainBobMinimus();
+        BellfounderTower tower = Towers.plainBobMinimus();
         Check.is("call(0)", tower.call(0), 1342);
         Check.is("call(0) again", tower.call(0), 1423);
         Check.is("call(1)", tower.call(1), 1423);
@@ -77,7 +66,7 @@ public final class TouchPromisesTest {
     }
 
     private static void uncall() {
-        BellfounderTower tower = plainBobMinimus();
+        BellfounderTower tower = Towers.plainBobMinimus();
         Check.refused("uncall() of none", tower, STATE, tower::uncall);
         tower.call(0);
         tower.call(2);
@@ -94,7 +83,7 @@ public final class TouchPromisesTest {
     }
 
     private static void callAt() {
-        BellfounderTower tower = plainBobMinimus();
+        BellfounderTower tower = Towers.plainBobMinimus();
         Check.refused("callAt(0) of none", tower, INDEX, () -> tower.callAt(0));
         tower.call(2);
         tower.call(0);
@@ -122,7 +111,7 @@ public final class TouchPromisesTest {
 
     private static void touchOfPlainBob() {
         touches("plain course", plainCourse(), 24, 1234, 1, 1, -1, 1, 28, 24);
-        BellfounderTower one = plainBobMinimus();
+        BellfounderTower one = Towers.plainBobMinimus();
         one.call(0);
         touches("plain lead", one, 8, 1342, 0, 1, -1, 3, 8, 8);
         one.uncall();
@@ -177,7 +166,7 @@ public final class TouchPromisesTest {
     }
 
     private static void row() {
-        BellfounderTower tower = plainBobMinimus();
+        BellfounderTower tower = Towers.plainBobMinimus();
         Check.refused("row(0) of none", tower, INDEX, () -> tower.row(0));
         tower.call(0);
         for (int k = 0; k < 8; k++) {
@@ -196,7 +185,7 @@ public final class TouchPromisesTest {
     }
 
     private static void where() {
-        BellfounderTower tower = plainBobMinimus();
+        BellfounderTower tower = Towers.plainBobMinimus();
         Check.is("where(1234) without rows", tower.where(1234), -1);
         tower.call(0);
         for (int k = 0; k < 8; k++) {
@@ -208,13 +197,13 @@ public final class TouchPromisesTest {
         tower.call(1);
         tower.call(0);
         Check.is("where(1342), rung twice", tower.where(1342), 7);
-        for (int row : new int[] {1233, 1235, 123, 12345, 0, -1234, LOWEST, HIGHEST}) {
+        for (int row : new int[] {1233, 1235, 123, 12345, 11234, 0, -1234, LOWEST, HIGHEST}) {
             Check.refused("where(" + row + ")", tower, ILLEGAL, () -> tower.where(row));
         }
     }
 
     private static void place() {
-        BellfounderTower tower = plainBobMinimus();
+        BellfounderTower tower = Towers.plainBobMinimus();
         Check.refused("place(1, 0) of none", tower, INDEX, () -> tower.place(1, 0));
         tower.call(0);
         Check.is("place(1, 0)", tower.place(1, 0), 2);
@@ -230,7 +219,7 @@ public final class TouchPromisesTest {
     }
 
     private static void longest() {
-        BellfounderTower tower = plainBobMinimus();
+        BellfounderTower tower = Towers.plainBobMinimus();
         Check.is("longest(1) without rows", tower.longest(1), 0);
         tower.call(0);
         int[] due = {2, 2, 2, 2};
@@ -265,7 +254,7 @@ public final class TouchPromisesTest {
         for (int[] pair : due) {
             Check.is("music(" + pair[0] + ")", tower.music(pair[0]), pair[1]);
         }
-        for (int row : new int[] {55555, 12340, 1234, 123456, 0, -12345, LOWEST, HIGHEST}) {
+        for (int row : new int[] {55555, 12340, 1234, 123456, 112345, 0, -12345, LOWEST, HIGHEST}) {
             Check.refused("music(" + row + ")", tower, ILLEGAL, () -> tower.music(row));
         }
         tower.begin(6);
@@ -283,7 +272,7 @@ public final class TouchPromisesTest {
     }
 
     private static void common() {
-        BellfounderTower tower = plainBobMinimus();
+        BellfounderTower tower = Towers.plainBobMinimus();
         Check.refused("common(0, 0) of none", tower, INDEX, () -> tower.common(0, 0));
         tower.call(1);
         tower.call(0);
@@ -308,7 +297,7 @@ public final class TouchPromisesTest {
     }
 
     private static void meanPlace() {
-        BellfounderTower tower = plainBobMinimus();
+        BellfounderTower tower = Towers.plainBobMinimus();
         Check.is("meanPlace() without rows", tower.meanPlace(), 0.0);
         tower.call(0);
         Check.is("meanPlace() of a plain lead", tower.meanPlace(), (3 + 2 + 1 + 1 + 2 + 3 + 4 + 3) / 8.0);
