@@ -3,8 +3,6 @@ public final class MethodPromisesTest {
     private static final Class<?> ILLEGAL = IllegalArgumentException.class;
     private static final Class<?> STATE = IllegalStateException.class;
     private static final Class<?> INDEX = IndexOutOfBoundsException.class;
-    private static final int LOWEST = Integer.MIN_VALUE;
-    private static final int HIGHEST = Integer.MAX_VALUE;
 
     public static void main(String[] args) {
         newObject();
@@ -24,15 +22,9 @@ public final class MethodPromisesTest {
         Check.end("MethodPromisesTest");
     }
 
-    private static void told(String where, BellfounderTower tower, int... due) {
-        for (int what = 0; what < due.length; what++) {
-            Check.is(where + ": told(" + what + ")", tower.told(what), due[what]);
-        }
-    }
-
     private static void newObject() {
         BellfounderTower tower = new BellfounderTower();
-        told("new", tower, 5, 0, 31, 31, 0, 5);
+        Check.each("new: told", tower::told, 5, 0, 31, 31, 0, 5);
         Check.is("new: touch(0)", tower.touch(0), 0);
         Check.is("new: touch(1)", tower.touch(1), 12345);
         Check.is("new: digest", tower.digest(), -1842964189053871377L);
@@ -44,11 +36,11 @@ public final class MethodPromisesTest {
         BellfounderTower tower = new BellfounderTower();
         for (int n = 4; n <= 7; n++) {
             Check.is("begin(" + n + ")", tower.begin(n), rounds[n - 4]);
-            told("begin(" + n + ")", tower, n, 0, allPlaces[n - 4], allPlaces[n - 4], 0, n);
+            Check.each("begin(" + n + "): told", tower::told, n, 0, allPlaces[n - 4], allPlaces[n - 4], 0, n);
         }
         BellfounderTower full = Towers.plainBobMinimus();
         full.call(0);
-        for (int n : new int[] {3, 8, 0, -1, -4, LOWEST, HIGHEST}) {
+        for (int n : new int[] {3, 8, 0, -1, -4, Edges.LOWEST, Edges.HIGHEST}) {
             Check.refused("begin(" + n + ")", full, ILLEGAL, () -> full.begin(n));
         }
     }
@@ -59,7 +51,7 @@ public final class MethodPromisesTest {
         tower.call(0);
         tower.call(1);
         Check.is("begin(4) with other bells before", tower.begin(4), 1234);
-        told("begin(4)", tower, 4, 0, 15, 15, 0, 4);
+        Check.each("begin(4): told", tower::told, 4, 0, 15, 15, 0, 4);
         Check.is("begin empties the touch", tower.touch(0), 0);
         Check.is("begin empties the different rows", tower.touch(7), 0);
         Check.is("begin forgets rows", tower.where(1342), -1);
@@ -71,7 +63,7 @@ public final class MethodPromisesTest {
         BellfounderTower tower = new BellfounderTower();
         Check.is("change(1)", tower.change(1), 1);
         Check.is("change(31)", tower.change(31), 2);
-        for (int set : new int[] {0, 2, 32, 33, -1, 8, LOWEST, HIGHEST}) {
+        for (int set : new int[] {0, 2, 32, 33, -1, 8, Edges.LOWEST, Edges.HIGHEST}) {
             Check.refused("change(" + set + ")", tower, ILLEGAL, () -> tower.change(set));
         }
         tower.begin(6);
@@ -137,11 +129,11 @@ public final class MethodPromisesTest {
         Check.is("at(2, 16)", tower.at(2, 16), 31);
         Check.is("at(1, 4)", tower.at(1, 4), 1);
         Check.is("at(2, 7)", tower.at(2, 7), 16);
-        told("at", tower, 5, 0, 4, 7);
-        for (int call : new int[] {0, 3, -1, LOWEST, HIGHEST}) {
+        Check.each("at: told", tower::told, 5, 0, 4, 7);
+        for (int call : new int[] {0, 3, -1, Edges.LOWEST, Edges.HIGHEST}) {
             Check.refused("at(" + call + ", 1)", tower, ILLEGAL, () -> tower.at(call, 1));
         }
-        for (int set : new int[] {0, 2, 32, -1, LOWEST, HIGHEST}) {
+        for (int set : new int[] {0, 2, 32, -1, Edges.LOWEST, Edges.HIGHEST}) {
             Check.refused("at(1, " + set + ")", tower, ILLEGAL, () -> tower.at(1, set));
             Check.refused("at(2, " + set + ")", tower, ILLEGAL, () -> tower.at(2, set));
         }
@@ -166,15 +158,15 @@ public final class MethodPromisesTest {
                 }
                 Check.is(n + " bells: isChange(" + set + ")", tower.isChange(set), due);
             }
-            Check.is("isChange(lowest)", tower.isChange(LOWEST), false);
-            Check.is("isChange(highest)", tower.isChange(HIGHEST), false);
+            Check.is("isChange(lowest)", tower.isChange(Edges.LOWEST), false);
+            Check.is("isChange(highest)", tower.isChange(Edges.HIGHEST), false);
         }
         int[] counts = {5, 8, 13, 21};
         for (int n = 4; n <= 7; n++) {
-            tower.begin(n);
+            BellfounderTower other = Towers.of(n);
             int count = 0;
             for (int set = 0; set < 256; set++) {
-                count += tower.isChange(set) ? 1 : 0;
+                count += other.isChange(set) ? 1 : 0;
             }
             Check.is("changes of " + n + " bells", count, counts[n - 4]);
         }
@@ -182,14 +174,14 @@ public final class MethodPromisesTest {
 
     private static void told() {
         BellfounderTower tower = Towers.plainBobMinimus();
-        told("plain bob", tower, 4, 8, 9, 15, 0, 1);
+        Check.each("plain bob: told", tower::told, 4, 8, 9, 15, 0, 1);
         tower.call(2);
         tower.call(0);
-        told("plain bob with calls", tower, 4, 8, 9, 15, 2, 1);
+        Check.each("plain bob with calls: told", tower::told, 4, 8, 9, 15, 2, 1);
         tower.at(1, 3);
         tower.at(2, 3);
-        told("all calls alike", tower, 4, 8, 3, 3, 2, 1);
-        for (int what : new int[] {-1, 6, LOWEST, HIGHEST}) {
+        Check.each("all calls alike: told", tower::told, 4, 8, 3, 3, 2, 1);
+        for (int what : new int[] {-1, 6, Edges.LOWEST, Edges.HIGHEST}) {
             Check.refused("told(" + what + ")", tower, ILLEGAL, () -> tower.told(what));
         }
         BellfounderTower five = new BellfounderTower();
@@ -210,7 +202,7 @@ public final class MethodPromisesTest {
         tower.unchange();
         Check.is("changeAt(0)", tower.changeAt(0), 1);
         Check.is("changeAt(1)", tower.changeAt(1), 16);
-        for (int k : new int[] {-1, 2, 14, LOWEST, HIGHEST}) {
+        for (int k : new int[] {-1, 2, 14, Edges.LOWEST, Edges.HIGHEST}) {
             Check.refused("changeAt(" + k + ")", tower, INDEX, () -> tower.changeAt(k));
         }
     }
@@ -222,10 +214,10 @@ public final class MethodPromisesTest {
         Check.is("next(53124, 4)", tower.next(53124, 4), 35142);
         Check.is("next(53124, 31)", tower.next(53124, 31), 53124);
         Check.is("next(53124, 19)", tower.next(53124, 19), 53214);
-        for (int row : new int[] {12344, 12340, 12346, 1234, 123456, 112345, 0, -12345, LOWEST, HIGHEST}) {
+        for (int row : new int[] {12344, 12340, 12346, 1234, 123456, 112345, 0, -12345, Edges.LOWEST, Edges.HIGHEST}) {
             Check.refused("next(" + row + ", 1)", tower, ILLEGAL, () -> tower.next(row, 1));
         }
-        for (int set : new int[] {0, 2, 32, -1, LOWEST, HIGHEST}) {
+        for (int set : new int[] {0, 2, 32, -1, Edges.LOWEST, Edges.HIGHEST}) {
             Check.refused("next(12345, " + set + ")", tower, ILLEGAL, () -> tower.next(12345, set));
         }
         tower.begin(4);
@@ -245,10 +237,10 @@ public final class MethodPromisesTest {
         Check.is("lead(1234, 2)", tower.lead(1234, 2), 1324);
         Check.is("lead(4321, 0)", tower.lead(4321, 0), 4213);
         Check.is("lead(4321, 2)", tower.lead(4321, 2), 4231);
-        for (int call : new int[] {-1, 3, LOWEST, HIGHEST}) {
+        for (int call : new int[] {-1, 3, Edges.LOWEST, Edges.HIGHEST}) {
             Check.refused("lead(1234, " + call + ")", tower, ILLEGAL, () -> tower.lead(1234, call));
         }
-        for (int row : new int[] {1233, 1235, 123, 12345, 11234, 0, -1234, LOWEST, HIGHEST}) {
+        for (int row : new int[] {1233, 1235, 123, 12345, 11234, 0, -1234, Edges.LOWEST, Edges.HIGHEST}) {
             Check.refused("lead(" + row + ", 0)", tower, ILLEGAL, () -> tower.lead(row, 0));
         }
         BellfounderTower empty = new BellfounderTower();
@@ -271,7 +263,7 @@ public final class MethodPromisesTest {
         Check.is("crossed(21345)", tower.crossed(21345), 1);
         Check.is("crossed(51234)", tower.crossed(51234), 4);
         Check.is("crossed(31524)", tower.crossed(31524), 4);
-        for (int row : new int[] {11345, 12340, 1234, 123456, 112345, 0, -12345, LOWEST, HIGHEST}) {
+        for (int row : new int[] {11345, 12340, 1234, 123456, 112345, 0, -12345, Edges.LOWEST, Edges.HIGHEST}) {
             Check.refused("crossed(" + row + ")", tower, ILLEGAL, () -> tower.crossed(row));
         }
         tower.begin(7);

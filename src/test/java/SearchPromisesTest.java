@@ -2,8 +2,6 @@
 public final class SearchPromisesTest {
     private static final Class<?> ILLEGAL = IllegalArgumentException.class;
     private static final Class<?> INDEX = IndexOutOfBoundsException.class;
-    private static final int LOWEST = Integer.MIN_VALUE;
-    private static final int HIGHEST = Integer.MAX_VALUE;
 
     public static void main(String[] args) {
         good();
@@ -24,7 +22,7 @@ public final class SearchPromisesTest {
         for (int k = 0; k <= 5; k++) {
             Check.is("good(" + k + ")", tower.good(k), due[k]);
         }
-        for (int k : new int[] {-1, 6, LOWEST, HIGHEST}) {
+        for (int k : new int[] {-1, 6, Edges.LOWEST, Edges.HIGHEST}) {
             Check.refused("good(" + k + ")", tower, ILLEGAL, () -> tower.good(k));
         }
         tower.at(1, 3);
@@ -47,7 +45,7 @@ public final class SearchPromisesTest {
         for (int k = 0; k <= 5; k++) {
             Check.is("best(" + k + ")", tower.best(k), due[k]);
         }
-        for (int k : new int[] {-1, 6, LOWEST, HIGHEST}) {
+        for (int k : new int[] {-1, 6, Edges.LOWEST, Edges.HIGHEST}) {
             Check.refused("best(" + k + ")", tower, ILLEGAL, () -> tower.best(k));
         }
         Check.is("best(5) without changes", new BellfounderTower().best(5), -1);
@@ -63,10 +61,10 @@ public final class SearchPromisesTest {
         }
         Check.refused("bestCall(0, 0)", tower, INDEX, () -> tower.bestCall(0, 0));
         Check.refused("bestCall(2, 1)", tower, INDEX, () -> tower.bestCall(2, 1));
-        for (int place : new int[] {-1, 3, 4, 5, LOWEST, HIGHEST}) {
+        for (int place : new int[] {-1, 3, 4, 5, Edges.LOWEST, Edges.HIGHEST}) {
             Check.refused("bestCall(5, " + place + ")", tower, INDEX, () -> tower.bestCall(5, place));
         }
-        for (int k : new int[] {-1, 6, LOWEST, HIGHEST}) {
+        for (int k : new int[] {-1, 6, Edges.LOWEST, Edges.HIGHEST}) {
             Check.refused("bestCall(" + k + ", 0)", tower, ILLEGAL, () -> tower.bestCall(k, 0));
             Check.refused("bestCall(" + k + ", -1)", tower, ILLEGAL, () -> tower.bestCall(k, -1));
         }
@@ -113,11 +111,11 @@ public final class SearchPromisesTest {
         Check.is("endWith(1, 2)", tower.endWith(1, 2), 1324);
         Check.is("endWith(2, 0)", tower.endWith(2, 0), 1234);
         Check.is("endWith(2, 1)", tower.endWith(2, 1), 1423);
-        for (int place : new int[] {-1, 3, LOWEST, HIGHEST}) {
+        for (int place : new int[] {-1, 3, Edges.LOWEST, Edges.HIGHEST}) {
             Check.refused("endWith(" + place + ", 0)", tower, INDEX, () -> tower.endWith(place, 0));
             Check.refused("endWith(" + place + ", 3)", tower, INDEX, () -> tower.endWith(place, 3));
         }
-        for (int call : new int[] {-1, 3, LOWEST, HIGHEST}) {
+        for (int call : new int[] {-1, 3, Edges.LOWEST, Edges.HIGHEST}) {
             Check.refused("endWith(0, " + call + ")", tower, ILLEGAL, () -> tower.endWith(0, call));
         }
         BellfounderTower empty = new BellfounderTower();
@@ -136,7 +134,7 @@ public final class SearchPromisesTest {
         tower.call(0);
         Check.is("clashes(0) behind a plain lead", tower.clashes(0), 0);
         Check.is("clashes(1) behind a plain lead", tower.clashes(1), 1);
-        for (int call : new int[] {-1, 3, LOWEST, HIGHEST}) {
+        for (int call : new int[] {-1, 3, Edges.LOWEST, Edges.HIGHEST}) {
             Check.refused("clashes(" + call + ")", tower, ILLEGAL, () -> tower.clashes(call));
         }
         BellfounderTower empty = new BellfounderTower();
@@ -164,44 +162,16 @@ public final class SearchPromisesTest {
 
     private static void digest() {
         Check.is("digest of a new tower", new BellfounderTower().digest(), -1842964189053871377L);
-        BellfounderTower tower = Towers.plainBobMinimus();
-        tower.at(2, 0);
-        Check.is("digest without calls", tower.digest(), addedUp(tower));
-        int[] calls = {0, 0, 2, 1, 0};
-        for (int call : calls) {
-            tower.call(call);
-            Check.is("digest with a call more", tower.digest(), addedUp(tower));
+        int[][] calls = {{}, {0}, {0, 0}, {0, 0, 2}, {0, 0, 2, 1}, {0, 0, 2, 1, 0}};
+        for (int[] laid : calls) {
+            BellfounderTower tower = Towers.laid(Towers.plainBobMinimus(), laid);
+            tower.at(2, 0);
+            Check.is("digest with calls: " + laid.length, tower.digest(), Digest.addedUp(tower));
         }
+        BellfounderTower tower = Towers.laid(Towers.plainBobMinimus(), 0, 1);
         tower.begin(7);
         tower.change(64);
         tower.call(1);
-        Check.is("digest of seven bells", tower.digest(), addedUp(tower));
-    }
-
-    private static long addedUp(BellfounderTower tower) {
-        long d = 1045;
-        for (int what = 0; what <= 5; what++) {
-            d = d * 31 + tower.told(what);
-        }
-        for (int k = 0; k < tower.told(1); k++) {
-            d = d * 31 + tower.changeAt(k);
-        }
-        for (int k = 0; k < tower.told(4); k++) {
-            d = d * 31 + tower.callAt(k);
-        }
-        for (int what = 0; what <= 7; what++) {
-            d = d * 31 + tower.touch(what);
-        }
-        for (int k = 0; k < tower.touch(0); k++) {
-            d = d * 31 + tower.row(k);
-        }
-        for (int bell = 1; bell <= tower.told(0); bell++) {
-            d = d * 31 + tower.longest(bell);
-        }
-        for (int call = 0; call <= 2; call++) {
-            d = d * 31 + tower.clashes(call);
-        }
-        d = d * 31 + tower.good(3);
-        return d * 31 + tower.best(3);
+        Check.is("digest of seven bells", tower.digest(), Digest.addedUp(tower));
     }
 }

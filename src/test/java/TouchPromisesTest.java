@@ -3,8 +3,6 @@ public final class TouchPromisesTest {
     private static final Class<?> ILLEGAL = IllegalArgumentException.class;
     private static final Class<?> STATE = IllegalStateException.class;
     private static final Class<?> INDEX = IndexOutOfBoundsException.class;
-    private static final int LOWEST = Integer.MIN_VALUE;
-    private static final int HIGHEST = Integer.MAX_VALUE;
     /** The rows of a plain lead of plain bob on four bells; with a bob the last one is 1234. */
     private static final int[] PLAIN_LEAD = {2143, 2413, 4231, 4321, 3412, 3142, 1324, 1342};
 
@@ -35,12 +33,6 @@ public final class TouchPromisesTest {
         return tower;
     }
 
-    private static void touches(String where, BellfounderTower tower, int... due) {
-        for (int what = 0; what < due.length; what++) {
-            Check.is(where + ": touch(" + what + ")", tower.touch(what), due[what]);
-        }
-    }
-
     private static void call() {
         BellfounderTower tower = Towers.plainBobMinimus();
         Check.is("call(0)", tower.call(0), 1342);
@@ -48,7 +40,7 @@ public final class TouchPromisesTest {
         Check.is("call(1)", tower.call(1), 1423);
         Check.is("call(2)", tower.call(2), 1243);
         Check.is("how many", tower.told(4), 4);
-        for (int call : new int[] {-1, 3, LOWEST, HIGHEST}) {
+        for (int call : new int[] {-1, 3, Edges.LOWEST, Edges.HIGHEST}) {
             Check.refused("call(" + call + ")", tower, ILLEGAL, () -> tower.call(call));
         }
         for (int k = 5; k <= 24; k++) {
@@ -73,7 +65,7 @@ public final class TouchPromisesTest {
         tower.call(1);
         Check.is("uncall()", tower.uncall(), 1);
         Check.is("uncall() again", tower.uncall(), 2);
-        touches("one call left", tower, 8, 1342, 0, 1, -1, 3, 8, 8);
+        Check.each("one call left: touch", tower::touch, 8, 1342, 0, 1, -1, 3, 8, 8);
         Check.is("uncall() of the last", tower.uncall(), 0);
         Check.refused("uncall() of none left", tower, STATE, tower::uncall);
         Check.is("rows are gone", tower.where(1342), -1);
@@ -91,43 +83,43 @@ public final class TouchPromisesTest {
         Check.is("callAt(0)", tower.callAt(0), 2);
         Check.is("callAt(1)", tower.callAt(1), 0);
         Check.is("callAt(2)", tower.callAt(2), 1);
-        for (int k : new int[] {-1, 3, 24, LOWEST, HIGHEST}) {
+        for (int k : new int[] {-1, 3, 24, Edges.LOWEST, Edges.HIGHEST}) {
             Check.refused("callAt(" + k + ")", tower, INDEX, () -> tower.callAt(k));
         }
     }
 
     private static void touchWithoutRows() {
         BellfounderTower tower = new BellfounderTower();
-        touches("without calls and changes", tower, 0, 12345, 0, 1, -1, 0, 0, 0);
+        Check.each("without calls and changes: touch", tower::touch, 0, 12345, 0, 1, -1, 0, 0, 0);
         tower.call(1);
-        touches("without changes", tower, 0, 12345, 0, 1, -1, 0, 0, 0);
+        Check.each("without changes: touch", tower::touch, 0, 12345, 0, 1, -1, 0, 0, 0);
         tower.uncall();
         tower.change(1);
-        touches("without calls", tower, 0, 12345, 0, 1, -1, 0, 0, 0);
-        for (int what : new int[] {-1, 8, LOWEST, HIGHEST}) {
+        Check.each("without calls: touch", tower::touch, 0, 12345, 0, 1, -1, 0, 0, 0);
+        for (int what : new int[] {-1, 8, Edges.LOWEST, Edges.HIGHEST}) {
             Check.refused("touch(" + what + ")", tower, ILLEGAL, () -> tower.touch(what));
         }
     }
 
     private static void touchOfPlainBob() {
-        touches("plain course", plainCourse(), 24, 1234, 1, 1, -1, 1, 28, 24);
+        Check.each("plain course: touch", plainCourse()::touch, 24, 1234, 1, 1, -1, 1, 28, 24);
         BellfounderTower one = Towers.plainBobMinimus();
         one.call(0);
-        touches("plain lead", one, 8, 1342, 0, 1, -1, 3, 8, 8);
+        Check.each("plain lead: touch", one::touch, 8, 1342, 0, 1, -1, 3, 8, 8);
         one.uncall();
         one.call(1);
-        touches("bob lead", one, 8, 1234, 1, 1, -1, 1, 16, 8);
+        Check.each("bob lead: touch", one::touch, 8, 1234, 1, 1, -1, 1, 16, 8);
         one.uncall();
         one.call(2);
-        touches("single lead", one, 8, 1324, 0, 0, 7, 2, 8, 7);
+        Check.each("single lead: touch", one::touch, 8, 1324, 0, 0, 7, 2, 8, 7);
     }
 
     private static void touchThatIsFalse() {
         BellfounderTower tower = plainCourse();
         tower.call(1);
-        touches("a course and a bob", tower, 32, 1234, 1, 0, 24, 1, 44, 24);
+        Check.each("a course and a bob: touch", tower::touch, 32, 1234, 1, 0, 24, 1, 44, 24);
         tower.uncall();
-        touches("the course again", tower, 24, 1234, 1, 1, -1, 1, 28, 24);
+        Check.each("the course again: touch", tower::touch, 24, 1234, 1, 1, -1, 1, 28, 24);
         tower.call(0);
         tower.call(0);
         Check.is("the first row of many that come again", tower.touch(4), 24);
@@ -137,9 +129,9 @@ public final class TouchPromisesTest {
         all.change(31);
         all.change(31);
         all.call(0);
-        touches("rounds twice", all, 2, 12345, 1, 0, 1, 1, 20, 1);
+        Check.each("rounds twice: touch", all::touch, 2, 12345, 1, 0, 1, 1, 20, 1);
         all.unchange();
-        touches("rounds once", all, 1, 12345, 1, 1, -1, 1, 10, 1);
+        Check.each("rounds once: touch", all::touch, 1, 12345, 1, 1, -1, 1, 10, 1);
     }
 
     /** The parts by the end of the touch: 231 at the front takes three, and two more bells crossed six. */
@@ -172,7 +164,7 @@ public final class TouchPromisesTest {
         for (int k = 0; k < 8; k++) {
             Check.is("row(" + k + ")", tower.row(k), PLAIN_LEAD[k]);
         }
-        for (int k : new int[] {-1, 8, LOWEST, HIGHEST}) {
+        for (int k : new int[] {-1, 8, Edges.LOWEST, Edges.HIGHEST}) {
             Check.refused("row(" + k + ")", tower, INDEX, () -> tower.row(k));
         }
         tower.call(1);
@@ -197,7 +189,7 @@ public final class TouchPromisesTest {
         tower.call(1);
         tower.call(0);
         Check.is("where(1342), rung twice", tower.where(1342), 7);
-        for (int row : new int[] {1233, 1235, 123, 12345, 11234, 0, -1234, LOWEST, HIGHEST}) {
+        for (int row : new int[] {1233, 1235, 123, 12345, 11234, 0, -1234, Edges.LOWEST, Edges.HIGHEST}) {
             Check.refused("where(" + row + ")", tower, ILLEGAL, () -> tower.where(row));
         }
     }
@@ -210,10 +202,10 @@ public final class TouchPromisesTest {
         Check.is("place(4, 0)", tower.place(4, 0), 3);
         Check.is("place(2, 7)", tower.place(2, 7), 4);
         Check.is("place(1, 7)", tower.place(1, 7), 1);
-        for (int bell : new int[] {0, 5, -1, LOWEST, HIGHEST}) {
+        for (int bell : new int[] {0, 5, -1, Edges.LOWEST, Edges.HIGHEST}) {
             Check.refused("place(" + bell + ", 0)", tower, INDEX, () -> tower.place(bell, 0));
         }
-        for (int k : new int[] {-1, 8, LOWEST, HIGHEST}) {
+        for (int k : new int[] {-1, 8, Edges.LOWEST, Edges.HIGHEST}) {
             Check.refused("place(1, " + k + ")", tower, INDEX, () -> tower.place(1, k));
         }
     }
@@ -226,7 +218,7 @@ public final class TouchPromisesTest {
         for (int bell = 1; bell <= 4; bell++) {
             Check.is("longest(" + bell + ")", tower.longest(bell), due[bell - 1]);
         }
-        for (int bell : new int[] {0, 5, -1, LOWEST, HIGHEST}) {
+        for (int bell : new int[] {0, 5, -1, Edges.LOWEST, Edges.HIGHEST}) {
             Check.refused("longest(" + bell + ")", tower, INDEX, () -> tower.longest(bell));
         }
         BellfounderTower five = new BellfounderTower();
@@ -254,7 +246,7 @@ public final class TouchPromisesTest {
         for (int[] pair : due) {
             Check.is("music(" + pair[0] + ")", tower.music(pair[0]), pair[1]);
         }
-        for (int row : new int[] {55555, 12340, 1234, 123456, 112345, 0, -12345, LOWEST, HIGHEST}) {
+        for (int row : new int[] {55555, 12340, 1234, 123456, 112345, 0, -12345, Edges.LOWEST, Edges.HIGHEST}) {
             Check.refused("music(" + row + ")", tower, ILLEGAL, () -> tower.music(row));
         }
         tower.begin(6);
@@ -283,7 +275,7 @@ public final class TouchPromisesTest {
         Check.is("common(1, 0)", tower.common(1, 0), 7);
         Check.is("common(1, 2)", tower.common(1, 2), 0);
         Check.is("common(3, 3): 1324 as the last one comes twice", tower.common(3, 3), 7);
-        for (int k : new int[] {-1, 4, LOWEST, HIGHEST}) {
+        for (int k : new int[] {-1, 4, Edges.LOWEST, Edges.HIGHEST}) {
             Check.refused("common(" + k + ", 0)", tower, INDEX, () -> tower.common(k, 0));
             Check.refused("common(0, " + k + ")", tower, INDEX, () -> tower.common(0, k));
         }
@@ -314,21 +306,15 @@ public final class TouchPromisesTest {
 
     /** All 14 changes, and rows that are the last ones of all: half way 7654321 comes. */
     private static void plainHuntOnSeven() {
-        BellfounderTower tower = new BellfounderTower();
-        tower.begin(7);
-        for (int k = 0; k < 7; k++) {
-            tower.change(64);
-            tower.change(1);
-        }
+        BellfounderTower tower = Towers.huntOnSeven(0);
         tower.at(1, 7);
-        tower.call(0);
-        touches("plain hunt on seven", tower, 14, 1234567, 1, 1, -1, 1, 28, 14);
+        Check.each("plain hunt on seven: touch", tower::touch, 14, 1234567, 1, 1, -1, 1, 28, 14);
         Check.is("where(7654321)", tower.where(7654321), 6);
         Check.is("where(7564231)", tower.where(7564231), -1);
         Check.is("place(7, 6)", tower.place(7, 6), 1);
         Check.is("meanPlace() on seven", tower.meanPlace(), 4.0);
         Check.is("call(1)", tower.call(1), 1324567);
-        touches("with a bob", tower, 28, 1324567, 0, 0, 14, 2, 46, 15);
+        Check.each("with a bob: touch", tower::touch, 28, 1324567, 0, 0, 14, 2, 46, 15);
         for (int k = 3; k <= 24; k++) {
             tower.call(k % 2);
         }
